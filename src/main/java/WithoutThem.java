@@ -55,7 +55,7 @@ public final class WithoutThem {
         if (answer >= 0) {
             now.copyFrom(tried);
         }
-        reader.letters = 0;
+        reader.forget();
         return answer;
     }
 
@@ -383,9 +383,6 @@ public final class WithoutThem {
         int minute;
 
         void copyFrom(House other) {
-            if (other == null) {
-                return;
-            }
             Rows.copy(other.kinds, kinds);
             Rows.copy(other.minutes, minutes);
             Rows.copy(other.sures, sures);
@@ -569,6 +566,10 @@ public final class WithoutThem {
             return letters;
         }
 
+        void forget() {
+            letters = 0;
+        }
+
         /** False leaves the place at the letter with which no HOUSE can go on. */
         boolean readsWell() {
             place = 0;
@@ -598,9 +599,6 @@ public final class WithoutThem {
         }
 
         private boolean tellOne(House house) {
-            if (house == null) {
-                return false;
-            }
             if (sign == 't') {
                 return house.addThing(kind, first, second);
             }
@@ -885,8 +883,8 @@ public final class WithoutThem {
 
         private static int priceOfGo(House house, int set, int thing, boolean inMean) {
             int minutes = house.minutesOfGo(thing, set);
-            int sure = Math.max(Rows.get(house.sures, thing), 1);
-            return inMean ? minutes * (10 * SHARES / sure) : minutes;
+            int sure = Rows.get(house.sures, thing);
+            return inMean && sure > 0 ? minutes * (10 * SHARES / sure) : minutes;
         }
 
         /** In how many orders just the wanted set comes; leaves how many each set on the way has. */

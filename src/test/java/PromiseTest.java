@@ -8,6 +8,8 @@ public final class PromiseTest {
     private static final String THINGS = "tt5,10;tl9,5;tb3,8;tf7,1;tw4,9;tp6,3;tt30,7;";
     private static final String NEEDS = "n10;n20;n21;n23;a43;a40;n54;n61;n62;a65;c69;c05;";
 
+    private static final String TEN = "tt1,1;tt1,1;tt1,1;tt1,1;tt1,1;tt1,1;tt1,1;tt1,1;tt1,1;tt1,1;";
+
     private static int wrong = 0;
     private static int promise = 0;
 
@@ -185,6 +187,7 @@ public final class PromiseTest {
         fault("h0;;", -1003);
         fault(" h0;", -1000);
         fault("tq1,1;", -1001);
+        fault("t;", -1001);
         fault("t1,1;", -1001);
         fault("tt,1;", -1002);
         fault("ttx,1;", -1002);
@@ -502,6 +505,9 @@ public final class PromiseTest {
         WithoutThem e = house("tt4,1;tl9,1;");
         due("either way", e.soonest(2, 0), 9);
         due("either way", e.soonest(2, 1), 0);
+        WithoutThem d = house("tt1,1;tt1,1;tt1,1;n02;");
+        due("2 1 0, 2 0 1 and 1 2 0 are alike", d.soonest(3, 0), 3);
+        due("the first of them goes by 1", d.soonest(3, 1), 1);
         due("bits of none", x.soonest(128, 0), -1);
         due("bits of none", x.soonest(-1, 2), -1);
         due("what", x.soonest(1, 2), -2);
@@ -553,7 +559,7 @@ public final class PromiseTest {
         x.need(4, 6, 1);
         due("of REACH alone", x.surely(0), 2);
         due("of REACH alone", x.surely(1), 5);
-        WithoutThem y = house("tt1,1;tt1,1;tt1,1;tt1,1;tt1,1;tt1,1;tt1,1;tt1,1;tt1,1;tt1,1;");
+        WithoutThem y = house(TEN);
         due("above", y.surely(0), 1);
         due("below", y.surely(1), 10000000000L);
         for (int t = 0; t < 10; t++) {
@@ -611,6 +617,9 @@ public final class PromiseTest {
         tell(z, "c06;");
         due("COSTS", z.beg(0), 5);
         due("the set", z.beg(1), 14);
+        WithoutThem w = house("tt1,1;tt1,1;tt1,1;a12;a21;c00;c10;c20;");
+        due("all for nothing", w.beg(0), 0);
+        due("the least bits of those", w.beg(1), 2);
         due("what", y.beg(2), -2);
         due("what", y.beg(-1), -2);
         refusals(y, 0, 2, 0, 0, 0);
@@ -696,7 +705,7 @@ public final class PromiseTest {
         due("bits of none, without HAND", x.ways(128), -1);
         due("bits of none", x.ways(-1), -1);
         refusals(x, 3, 0, 2, 0, 0);
-        WithoutThem y = house("tt1,1;tt1,1;tt1,1;tt1,1;tt1,1;tt1,1;tt1,1;tt1,1;tt1,1;tt1,1;");
+        WithoutThem y = house(TEN);
         due("ten", y.ways(1023), 3628800);
         due("by itself alone", house("tt1,1;tt1,1;tt1,1;n10;n12;").ways(6), 1);
     }
@@ -797,6 +806,7 @@ public final class PromiseTest {
         orderDue(y, 1, 0, 1, 3, 2);
         WithoutThem z = house("tt1,1;tt1,1;tt1,1;n12;n21;");
         orderDue(z, 0, 0);
+        orderDue(house(TEN), 1, 0, 1, 2, 3, 4, 5, 6, 7, 8, 9);
         due("kind", x.seeker(6, -1), -2);
         due("kind", x.seeker(-1, 0), -2);
         due("k", x.seeker(0, -1), -4);
@@ -820,6 +830,7 @@ public final class PromiseTest {
         due("as long as it can", x.seeks(0), 5 + 3 + 7 + 6 + 30 + 5);
         x.need(0, 1, 1);
         due("none", x.seeks(2), 0);
+        due("ten", house(TEN).seeks(3), 10);
         due("kind", x.seeks(6), -2);
         due("kind", x.seeks(-1), -2);
         refusals(x, 0, 2, 0, 0, 0);
@@ -893,7 +904,7 @@ public final class PromiseTest {
         due("none", new WithoutThem().lots(0, 5), 0);
         due("sure ones", house("tt1,10;tl9,10;tw3,10;").lots(0, 99), 1 + 5 + 5);
         due("by QUICK", house("tt3,10;tl5,10;tw1,10;").lots(1, 99), 1 + 3 + 3);
-        WithoutThem z = house("tt1,1;tt1,1;tt1,1;tt1,1;tt1,1;tt1,1;tt1,1;tt1,1;tt1,1;tt1,1;");
+        WithoutThem z = house(TEN);
         int most = 0;
         for (int seed = 0; seed < 100; seed++) {
             most = Math.max(most, z.lots(0, seed));
