@@ -25,6 +25,16 @@ public final class FaceTest {
         }
     }
 
+    /** No method but the face's own bears a name of the face. */
+    private static void otherNames(Class<?> c, TreeSet<String> face) {
+        for (Method m : c.getDeclaredMethods()) {
+            boolean own = c == WithoutThem.class && Modifier.isPublic(m.getModifiers());
+            for (String of : face) {
+                check(own || !of.contains(" " + m.getName() + "("), "a name of the face again: " + m);
+            }
+        }
+    }
+
     public static void main(String[] args) {
         Class<?> c = WithoutThem.class;
         check(Modifier.isPublic(c.getModifiers()) && Modifier.isFinal(c.getModifiers()), "public final class");
@@ -40,6 +50,7 @@ public final class FaceTest {
             }
         }
         TreeSet<String> due = new TreeSet<>(Arrays.asList(FACE));
+        otherNames(c, due);
         check(seen.equals(due), "the face is " + due + ", seen is " + seen);
         Constructor<?>[] made = c.getDeclaredConstructors();
         check(made.length == 1 && Modifier.isPublic(made[0].getModifiers()) && made[0].getParameterCount() == 0,
@@ -51,6 +62,7 @@ public final class FaceTest {
         check(c.getDeclaredClasses().length <= 12, "at most twelve classes inside");
         for (Class<?> inside : c.getDeclaredClasses()) {
             int m = inside.getModifiers();
+            otherNames(inside, due);
             check(Modifier.isStatic(m) && !Modifier.isPublic(m) && !Modifier.isProtected(m), "static, not public: " + inside);
             check(inside.getDeclaredFields().length <= 30, "few fields: " + inside);
         }
