@@ -522,7 +522,7 @@ public final class WithoutThem {
         }
 
         int barred() {
-            return everything() & ~reachFrom(had);
+            return everything() & ~reachWithin(had, everything());
         }
 
         int costOf(int set) {

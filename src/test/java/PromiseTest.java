@@ -1,3 +1,10 @@
+import java.lang.reflect.Method;
+import java.nio.charset.StandardCharsets;
+import java.nio.file.Files;
+import java.nio.file.Path;
+import java.util.regex.Matcher;
+import java.util.regex.Pattern;
+
 /** For each promise of ../shared/DOC.md: ordinary calls, the edges that it names, and wrong calls. */
 public final class PromiseTest {
     private static final long NO = 4000000000000000000L;
@@ -49,7 +56,7 @@ public final class PromiseTest {
         }
     }
 
-    public static void main(String[] args) {
+    public static void main(String[] args) throws Exception {
         fresh();
         letters();
         texts();
@@ -82,6 +89,7 @@ public final class PromiseTest {
         images();
         ons();
         counts();
+        readme();
         System.out.println(wrong == 0 ? "all promises hold" : wrong + " answers are not as due");
         if (wrong != 0) {
             System.exit(1);
@@ -1022,5 +1030,38 @@ public final class PromiseTest {
             due("count(" + what + ")", x.count(what), -9);
         }
         refusals(x, 3, 2, 1, 3, 2);
+    }
+
+    /** The example of README.md answers as that page says. Run from the project's root. */
+    private static void readme() throws Exception {
+        promise = 0;
+        String page = Files.readString(Path.of("README.md"), StandardCharsets.UTF_8);
+        Matcher text = Pattern.compile("\"([^\"]+)\"\\.toCharArray").matcher(page);
+        String letters = text.find() ? text.group(1) : "";
+        WithoutThem x = new WithoutThem();
+        for (int i = 0; i < letters.length(); i++) {
+            x.letter(letters.charAt(i));
+        }
+        Matcher call = Pattern.compile("x\\.(\\w+)\\(([\\d, ]*)\\); *// (-?\\d+)").matcher(page);
+        int calls = 0;
+        while (call.find()) {
+            calls++;
+            due("README: " + call.group(1) + "(" + call.group(2) + ")", answer(x, call.group(1), call.group(2)), Long.parseLong(call.group(3)));
+        }
+        due("README: calls with answers", calls, 5);
+    }
+
+    private static long answer(WithoutThem x, String name, String told) throws Exception {
+        String[] numbers = told.isEmpty() ? new String[0] : told.split(", ");
+        Object[] with = new Object[numbers.length];
+        for (int i = 0; i < with.length; i++) {
+            with[i] = Integer.valueOf(numbers[i]);
+        }
+        for (Method m : WithoutThem.class.getMethods()) {
+            if (m.getName().equals(name) && m.getParameterCount() == with.length) {
+                return ((Number) m.invoke(x, with)).longValue();
+            }
+        }
+        return NO;
     }
 }
